@@ -40,8 +40,8 @@ public final class CoverRings {
     private final int[] earlierShares;
 
     public CoverRings() {
-        book = new Book();
-        settlement = new Settlement(book);
+        settlement = new Settlement();
+        book = settlement.book;
         shortest = new Way();
         claim = new Claim();
         drawers = new Drawers();
@@ -500,7 +500,7 @@ public final class CoverRings {
         return within(level, 0, settlement.web.levels - 1);
     }
 
-    /** Whether the place held another number; the caller has looked at the index. */
+    /** Whether the place held another number: only then is it a change. */
     private static boolean changed(int[] numbers, int at, int n) {
         if (at < 0 || at >= numbers.length || numbers[at] == n) {
             return false;
@@ -718,9 +718,10 @@ public final class CoverRings {
             findLevels();
         }
 
+        /** Who reaches himself is on a ring; on it are all that he reaches and that reach him. */
         private void findRings() {
             for (int by = 0; by < POLICIES; by++) {
-                for (int p = 0; p < POLICIES; p++) {
+                for (int p = 0; reached[by] != 0 && p < POLICIES; p++) {
                     if (has(reached[p], by)) {
                         reached[p] |= reached[by];
                     }
@@ -728,7 +729,8 @@ public final class CoverRings {
             }
             for (int p = 0; p < POLICIES; p++) {
                 rings[p] = 0;
-                for (int q = 0; q < POLICIES; q++) {
+                boolean onRing = has(reached[p], p);
+                for (int q = 0; onRing && q < POLICIES; q++) {
                     if (has(reached[p], q) && has(reached[q], p)) {
                         rings[p] |= 1 << q;
                     }
@@ -834,7 +836,7 @@ public final class CoverRings {
 
     /** The losses settled one behind the other; what is kept at the end is of the last one. */
     private static final class Settlement {
-        final Book book;
+        final Book book = new Book();
         final Web web = new Web();
         final Divider divider = new Divider();
         int present;
@@ -848,10 +850,6 @@ public final class CoverRings {
         final int[] burdens = new int[POLICIES];
         int total;
         int allTotals;
-
-        Settlement(Book told) {
-            book = told;
-        }
 
         /** All as it was told; whoever asks what would be changes this before the settling. */
         void asBooked() {

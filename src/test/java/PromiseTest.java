@@ -62,6 +62,12 @@ final class PromiseTest {
         return x;
     }
 
+    private static CoverRings limitsWithLoss(int... limits) {
+        CoverRings x = limits(limits);
+        x.loss(0, 5);
+        return x;
+    }
+
     /** A ring of 0, 1, 2; 3 stands apart; 4 escapes, 5 would escape to 4 alone; 6 is behind 5. */
     private static CoverRings ringed() {
         CoverRings x = limits(100, 100, 100, 100, 500, 50, 90);
@@ -221,6 +227,8 @@ final class PromiseTest {
         due("worth not told any more", x.value(true, 7, 0), true);
         due("no OVER", x.returned(NONE, 7), NONE);
         due("premium stays", x.of(0, 9), 99_999);
+        due("premium 0 again", x.value(false, 0, 0), true);
+        due("of(0, 9)", x.of(0, 9), 0);
     }
 
     private static void loss() {
@@ -310,6 +318,7 @@ final class PromiseTest {
         x.revoke();
         due("count(5) with some left", x.count(5), 0);
         due("count(3)", x.count(3), 900);
+        due("count(4) without the revoked one", x.count(4), 1600);
     }
 
     private static void of() {
@@ -462,9 +471,11 @@ final class PromiseTest {
         due("no policy -1", x.strain(0, -1), NONE);
         due("no loss 2", x.strain(2, 0), NONE);
         due("no loss -1", x.strain(-1, 0), NONE);
-        CoverRings full = limits(7);
-        full.loss(0, 7);
-        due("all of it", full.strain(0, 0), 0x3ff0000000000000L);
+        for (int limit : new int[] {1, 7, 999_999}) {
+            CoverRings full = limits(limit);
+            full.loss(0, 1_000_000);
+            due("all of it", full.strain(0, 0), 0x3ff0000000000000L);
+        }
         for (int most = 999_700; most <= 1_000_000; most++) {
             CoverRings y = limits(most);
             y.loss(0, 1 + most % 7);
@@ -517,6 +528,8 @@ final class PromiseTest {
             due("chain, level " + level, chain.level(0, level), 1 << 7 - level);
         }
         due("chain, level 8", chain.level(0, 8), NONE);
+        due("chain, BURDEN of level 7", chain.share(0, 0, 8), 0);
+        due("chain, BURDEN of level 4", chain.share(0, 3, 8), 1);
         dueShares("chain", chain, 0, 0, 0, 0, 1, 1, 1, 1, 1);
     }
 
@@ -572,7 +585,10 @@ final class PromiseTest {
         due("0 to 0 in a ring, 0", x.way(0, 0, 0, 0), NONE);
         due("5 to 1", x.way(0, 5, 1, NONE), 4);
         due("5 to 1, third", x.way(0, 5, 1, 2), 0);
+        due("5 to 1, first", x.way(0, 5, 1, 0), 5);
+        due("5 to 1, last", x.way(0, 5, 1, 3), 1);
         due("no policy 6", x.way(0, 6, 1, NONE), NONE);
+        due("to no policy 6", x.way(0, 1, 6, NONE), NONE);
         due("no policy -1", x.way(0, 1, -1, NONE), NONE);
         due("no loss 1", x.way(1, 5, 1, NONE), NONE);
         due("no loss -1", x.way(-1, 5, 1, NONE), NONE);
@@ -813,6 +829,10 @@ final class PromiseTest {
         great.value(true, 0, 1);
         due("the greatest OVER", great.returned(NONE, 0), 7_999_999);
         due("the greatest RETURN", great.returned(7, 0), 99_998);
+        CoverRings least = limits(1);
+        least.value(true, 0, 1);
+        least.value(false, 0, 5);
+        due("the least LIMIT", least.returned(0, 0), 0);
     }
 
     private static void ringless() {
@@ -835,6 +855,7 @@ final class PromiseTest {
         all.loss(0, 5);
         due("all to all", all.ringless(0, false), 7);
         due("all to all, the least", all.ringless(0, true), 127);
+        due("no ring", limitsWithLoss(5, 5).ringless(0, false), 0);
         CoverRings pairs = limits(5, 5, 5, 5);
         pairs.clause(0, ESCAPE, 0b1000);
         pairs.clause(3, ESCAPE, 0b1);
@@ -856,6 +877,8 @@ final class PromiseTest {
         due("0 and 1", x.fewest(0, false), 2);
         x.clause(0, RATEABLE, 0);
         due("all that have a share", x.fewest(0, true), 7);
+        due("one is just short", limitsWithLoss(4, 4, 1).fewest(0, true), 3);
+        due("of like ones the least", limitsWithLoss(4, 5, 5).fewest(0, true), 2);
         x.loss(1, 5);
         due("TOTAL is 0", x.fewest(1, false), 0);
         due("TOTAL is 0", x.fewest(1, true), 0);
