@@ -95,7 +95,7 @@ final class Naive {
     int rule() { return rule = rule == 0 ? 1 : 0; }
 
     int count(int what) {
-        List<Result> results = settle(all(), rule);
+        List<Result> results = what == 3 || what == 5 ? settle(all(), rule) : List.of();
         int sum = 0;
         switch (what) {
             case 0: return policies.size();
@@ -117,7 +117,7 @@ final class Naive {
     int of(int policy, int what) {
         if (noPolicy(policy)) throw new NoSuchElementException();
         Policy p = policies.get(policy);
-        List<Result> results = settle(all(), rule);
+        List<Result> results = what == 7 || what == 8 || what == 10 ? settle(all(), rule) : List.of();
         switch (what) {
             case 0: return p.limit;
             case 1: return p.aggregate;

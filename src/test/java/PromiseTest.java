@@ -1,37 +1,5 @@
-import java.util.NoSuchElementException;
-
 /** For each promise of the document: answers reckoned by hand, its edges, and wrong inputs. */
-final class PromiseTest {
-    private static final int NONE = -1;
-    private static final int PLAIN = 0, RATEABLE = 1, EXCESS = 2, ESCAPE = 3;
-    private static final int INSURED = 8;
-    private static int wrong;
-    private static int promise;
-
-    private interface Call {
-        long answer();
-    }
-
-    private static void due(String call, long got, long want) {
-        if (got != want) {
-            wrong++;
-            System.out.println("promise " + promise + ": " + call + " answered " + got + ", due is " + want);
-        }
-    }
-
-    private static void due(String call, boolean got, boolean want) {
-        due(call, got ? 1 : 0, want ? 1 : 0);
-    }
-
-    private static void dueThrow(String call, Call made) {
-        try {
-            due(call, made.answer(), Long.MIN_VALUE);
-        } catch (NoSuchElementException e) {
-            return;
-        }
-        System.out.println("promise " + promise + ": " + call + " should have thrown NoSuchElementException");
-    }
-
+final class PromiseTest extends Checks {
     public static void main(String[] args) {
         Runnable[] promises = {
             PromiseTest::aNewObject, PromiseTest::policy, PromiseTest::clause, PromiseTest::limit,
@@ -43,29 +11,10 @@ final class PromiseTest {
             PromiseTest::set, PromiseTest::shapley, PromiseTest::returned, PromiseTest::ringless,
             PromiseTest::fewest, PromiseTest::moved, PromiseTest::file, PromiseTest::filed,
         };
-        for (Runnable each : promises) {
-            promise++;
-            each.run();
+        for (int i = 0; i < promises.length; i++) {
+            sentence("promise " + (i + 1), promises[i]);
         }
-        System.out.println(wrong == 0 ? "all answers are as due" : wrong + " answers are not as due");
-        if (wrong != 0) {
-            System.exit(1);
-        }
-    }
-
-    /** Policies of these limits on item 0, with much in all, nothing deducted. */
-    private static CoverRings limits(int... limits) {
-        CoverRings x = new CoverRings();
-        for (int limit : limits) {
-            x.policy(limit, 9_000_000, 0, 0, 1);
-        }
-        return x;
-    }
-
-    private static CoverRings limitsWithLoss(int... limits) {
-        CoverRings x = limits(limits);
-        x.loss(0, 5);
-        return x;
+        end();
     }
 
     /** A ring of 0, 1, 2; 3 stands apart; 4 escapes, 5 would escape to 4 alone; 6 is behind 5. */
@@ -81,27 +30,13 @@ final class PromiseTest {
         return x;
     }
 
-    private static long row(int... policies) {
-        long row = 0;
-        for (int i = policies.length - 1; i >= 0; i--) {
-            row = row * 9 + policies[i] + 1;
-        }
-        return row;
-    }
-
-    private static void dueShares(String state, CoverRings x, int loss, int... shares) {
-        for (int p = 0; p < shares.length; p++) {
-            due(state + ": share of " + p, x.share(loss, p, 3), shares[p]);
-        }
-    }
-
     private static void aNewObject() {
         CoverRings x = new CoverRings();
         for (int what = 0; what <= 5; what++) {
             due("count(" + what + ")", x.count(what), 0);
         }
         due("NONE", CoverRings.NONE, -1);
-        dueThrow("of(0, 0)", () -> x.of(0, 0));
+        dueThrow("of(0, 0)", x, y -> y.of(0, 0));
         due("settled(0, 0)", x.settled(0, 0), NONE);
         due("revoke()", x.revoke(), NONE);
         for (int item = 0; item < 8; item++) {
@@ -345,11 +280,11 @@ final class PromiseTest {
         due("its shares", x.of(0, 8), 500);
         due("used up by", x.of(0, 10), 2);
         for (int what : new int[] {-1, 11, 19, 28, Integer.MIN_VALUE, Integer.MAX_VALUE}) {
-            dueThrow("of(0, " + what + ")", () -> x.of(0, what));
+            dueThrow("of(0, " + what + ")", x, y -> y.of(0, what));
         }
-        dueThrow("of(1, 0)", () -> x.of(1, 0));
-        dueThrow("of(-1, 20)", () -> x.of(-1, 20));
-        dueThrow("of(8, 20)", () -> x.of(8, 20));
+        dueThrow("of(1, 0)", x, y -> y.of(1, 0));
+        dueThrow("of(-1, 20)", x, y -> y.of(-1, 20));
+        dueThrow("of(8, 20)", x, y -> y.of(8, 20));
     }
 
     private static void settled() {
@@ -395,12 +330,12 @@ final class PromiseTest {
         for (int what = 0; what <= 8; what++) {
             due("share(1, 0, " + what + ")", x.share(1, 0, what), notIn[what]);
         }
-        dueThrow("share(0, 0, 9)", () -> x.share(0, 0, 9));
-        dueThrow("share(0, 0, -1)", () -> x.share(0, 0, -1));
-        dueThrow("share(0, 7, 0)", () -> x.share(0, 7, 0));
-        dueThrow("share(0, -1, 0)", () -> x.share(0, -1, 0));
-        dueThrow("share(2, 0, 0)", () -> x.share(2, 0, 0));
-        dueThrow("share(-1, 0, 0)", () -> x.share(-1, 0, 0));
+        dueThrow("share(0, 0, 9)", x, y -> y.share(0, 0, 9));
+        dueThrow("share(0, 0, -1)", x, y -> y.share(0, 0, -1));
+        dueThrow("share(0, 7, 0)", x, y -> y.share(0, 7, 0));
+        dueThrow("share(0, -1, 0)", x, y -> y.share(0, -1, 0));
+        dueThrow("share(2, 0, 0)", x, y -> y.share(2, 0, 0));
+        dueThrow("share(-1, 0, 0)", x, y -> y.share(-1, 0, 0));
         shareOwed();
         shareOfRingsBehind();
     }
@@ -855,7 +790,7 @@ final class PromiseTest {
         all.loss(0, 5);
         due("all to all", all.ringless(0, false), 7);
         due("all to all, the least", all.ringless(0, true), 127);
-        due("no ring", limitsWithLoss(5, 5).ringless(0, false), 0);
+        due("no ring", lossOn(5, 5, 5).ringless(0, false), 0);
         CoverRings pairs = limits(5, 5, 5, 5);
         pairs.clause(0, ESCAPE, 0b1000);
         pairs.clause(3, ESCAPE, 0b1);
@@ -877,8 +812,8 @@ final class PromiseTest {
         due("0 and 1", x.fewest(0, false), 2);
         x.clause(0, RATEABLE, 0);
         due("all that have a share", x.fewest(0, true), 7);
-        due("one is just short", limitsWithLoss(4, 4, 1).fewest(0, true), 3);
-        due("of like ones the least", limitsWithLoss(4, 5, 5).fewest(0, true), 2);
+        due("one is just short", lossOn(5, 4, 4, 1).fewest(0, true), 3);
+        due("of like ones the least", lossOn(5, 4, 5, 5).fewest(0, true), 2);
         x.loss(1, 5);
         due("TOTAL is 0", x.fewest(1, false), 0);
         due("TOTAL is 0", x.fewest(1, true), 0);
