@@ -13,6 +13,13 @@ abstract class Checks {
     static final int MILLION = 1_000_000, MOST = 9_000_000;
     static final int LEAST_INT = Integer.MIN_VALUE, GREATEST_INT = Integer.MAX_VALUE;
 
+    /** What there is none of in the state that `some` tells. */
+    static final int[] NO_LOSS_OF_TWO = {2, 9, 10, -1, -2, LEAST_INT, GREATEST_INT};
+    static final int[] NO_POLICY_OF_THREE = {3, 7, 8, -1, -2, LEAST_INT, GREATEST_INT};
+    /** Likewise, where NONE asks for something else. */
+    static final int[] NO_POLICY_NOR_NONE = {3, 7, 8, -2, LEAST_INT, GREATEST_INT};
+    static final int[] NO_ITEM = {8, -1, LEAST_INT, GREATEST_INT};
+
     /** Stands for NoSuchElementException; no call of the face can answer it. */
     static final long THROWN = Long.MIN_VALUE + 7;
 
@@ -204,6 +211,14 @@ abstract class Checks {
         return x;
     }
 
+    /** LONES 400, 600, 200, 600; SHARES 200, 300, 100, 0: 2 is RATEABLE, 3 is EXCESS to 0. */
+    static CoverRings claims() {
+        CoverRings x = lossOn(600, 400, 600, 200, 700);
+        x.clause(2, RATEABLE, 0);
+        x.clause(3, EXCESS, 1);
+        return x;
+    }
+
     /** A claim's number, the first policy of the row first. */
     static long row(int... policies) {
         long row = 0;
@@ -221,5 +236,20 @@ abstract class Checks {
         for (int p = 0; p < want.length; p++) {
             due(state + " of " + p, x.share(loss, p, what), want[p]);
         }
+    }
+
+    /** Each payment as {who, whom, how much}; behind the last there is none. */
+    static void duePayments(String state, CoverRings x, long row, int[]... payments) {
+        due(state + ": how many", x.recovery(0, row, NONE, 0), payments.length);
+        for (int k = 0; k < payments.length; k++) {
+            for (int what = 0; what < 3; what++) {
+                due(state + ": " + k + ", " + what, x.recovery(0, row, k, what), payments[k][what]);
+            }
+        }
+        due(state + ": not so many", x.recovery(0, row, payments.length, 0), NONE);
+    }
+
+    static int[] pays(int who, int whom, int much) {
+        return new int[] {who, whom, much};
     }
 }

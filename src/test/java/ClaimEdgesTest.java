@@ -1,7 +1,5 @@
 /** Promises 20 to 22: claims, recovery, insurers that can't pay. Each sentence at its bounds. */
 final class ClaimEdgesTest extends Checks {
-    private static final int[] NO_LOSS_OF_TWO = {2, 9, 10, -1, -2, LEAST_INT, GREATEST_INT};
-    private static final int[] NO_POLICY_OF_THREE = {3, 7, 8, -2, LEAST_INT, GREATEST_INT};
     private static final long[] ROWS_THAT_CANNOT_BE = {4, 8, 9, 2 * 9, 1 + 4 * 9, 1 + 2 * 81, row(0, 0), row(0, 1, 0), row(2, 1, 0, 2),
         row(0, 1, 2) + 729, row(0, 1, 2) + 4 * 729, -1, -9, -row(0, 1), 1L << 32 | 1, Long.MIN_VALUE, Long.MAX_VALUE};
 
@@ -57,7 +55,7 @@ final class ClaimEdgesTest extends Checks {
         for (int loss : NO_LOSS_OF_TWO) {
             unchanging(Checks::some, "no LOSS " + loss, NONE, x -> x.claimed(loss, row(0), 0));
         }
-        for (int p : NO_POLICY_OF_THREE) {
+        for (int p : NO_POLICY_NOR_NONE) {
             unchanging(Checks::some, "no POLICY " + p, NONE, x -> x.claimed(0, row(0), p));
         }
         due("no LOSS 10 of all", full().claimed(10, 0, NONE), NONE);
@@ -203,7 +201,7 @@ final class ClaimEdgesTest extends Checks {
             unchanging(Checks::some, "no LOSS " + loss, NONE, x -> x.broke(loss, 1, 0));
             unchanging(Checks::some, "no LOSS " + loss + ", LACKS", NONE, x -> x.broke(loss, 1, NONE));
         }
-        for (int p : NO_POLICY_OF_THREE) {
+        for (int p : NO_POLICY_NOR_NONE) {
             unchanging(Checks::some, "no POLICY " + p, NONE, x -> x.broke(0, 1, p));
         }
         due("no POLICY 8 of all", full().broke(9, 255, 8), NONE);

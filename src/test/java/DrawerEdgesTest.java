@@ -2,7 +2,6 @@
 final class DrawerEdgesTest extends Checks {
     private static final int[] NO_DRAWER = {4, -1, LEAST_INT, GREATEST_INT};
     private static final int[] NO_PLACE = {8, -1, LEAST_INT, GREATEST_INT};
-    private static final int[] NO_POLICY_OF_THREE = {3, 7, 8, -1, -2, LEAST_INT, GREATEST_INT};
 
     public static void main(String[] args) {
         sentence("31: A POLICY is put into a place, 0 to 7, of a DRAWER, 0 to 3: 0", DrawerEdgesTest::file);

@@ -1,8 +1,5 @@
 /** Promises 12 to 19: a loss. Each sentence at its bounds; to ask changes nothing. */
 final class LossEdgesTest extends Checks {
-    private static final int[] NO_LOSS_OF_TWO = {2, 9, 10, -1, -2, LEAST_INT, GREATEST_INT};
-    private static final int[] NO_POLICY_OF_THREE = {3, 7, 8, -1, -2, LEAST_INT, GREATEST_INT};
-
     public static void main(String[] args) {
         sentence("12: Of a LOSS, what 0: ITEM, 1: AMOUNT", LossEdgesTest::settledAsTold);
         sentence("12: 2: TOTAL", LossEdgesTest::settledTotal);
@@ -184,6 +181,9 @@ final class LossEdgesTest extends Checks {
         CoverRings less = lossOn(15, 10, 10);
         dueOfEach("CAP", less, 0, CAP, 10, 10);
         dueOfEach("SHARE", less, 0, SHARE, 8, 7);
+        less.loss(1, 15);
+        dueOfEach("none is IN behind a LOSS where all are: CAP", less, 1, CAP, 0, 0);
+        dueOfEach("none is IN behind a LOSS where all are: SHARE", less, 1, SHARE, 0, 0);
     }
 
     private static void shareRing() {
@@ -235,6 +235,12 @@ final class LossEdgesTest extends Checks {
         dueOfEach("2 is not IN: BURDEN", x, 0, BURDEN, 25, 5, NONE, 25);
         x.clause(1, ESCAPE, 0b0001);
         due("of one that is OUT", x.share(0, 1, BURDEN), 5);
+        CoverRings chain = eight(10);
+        chain.loss(0, 75);
+        for (int p = 1; p < 8; p++) {
+            chain.clause(p, EXCESS, 1 << p - 1);
+        }
+        dueOfEach("the last LEVEL that can be: BURDEN", chain, 0, BURDEN, 75, 65, 55, 45, 35, 25, 15, 5);
     }
 
     private static void shareNone() {

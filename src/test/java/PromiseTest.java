@@ -536,15 +536,6 @@ final class PromiseTest extends Checks {
         due("the longest, last", chain.way(0, 0, 7, 7), 7);
     }
 
-    /** SHARES 0: 200, 1: 300, 2: 100 (RATEABLE), 3: 0 (behind them); LONES 400, 600, 200, 600. */
-    private static CoverRings claims() {
-        CoverRings x = limits(400, 600, 200, 700);
-        x.clause(2, RATEABLE, 0);
-        x.clause(3, EXCESS, 1);
-        x.loss(0, 600);
-        return x;
-    }
-
     private static void claimed() {
         CoverRings x = claims();
         dueShares("by LONES", x, 0, 200, 300, 100, 0);
@@ -575,30 +566,20 @@ final class PromiseTest extends Checks {
         due("a ninth", all.claimed(0, row(7, 6, 5, 4, 3, 2, 1, 0) + 43046721L, NONE), NONE);
     }
 
-    private static void duePayments(String state, CoverRings x, long row, int[]... payments) {
-        due(state + ": how many", x.recovery(0, row, NONE, 0), payments.length);
-        for (int k = 0; k < payments.length; k++) {
-            for (int what = 0; what < 3; what++) {
-                due(state + ": " + k + ", " + what, x.recovery(0, row, k, what), payments[k][what]);
-            }
-        }
-        due(state + ": not so many", x.recovery(0, row, payments.length, 0), NONE);
-    }
-
     private static void recovery() {
         CoverRings x = claims();
-        duePayments("nobody", x, 0, new int[] {0, INSURED, 200}, new int[] {1, INSURED, 300}, new int[] {2, INSURED, 100});
+        duePayments("nobody", x, 0, pays(0, INSURED, 200), pays(1, INSURED, 300), pays(2, INSURED, 100));
         // balances 200, -300, -100, 0, the insured -200
-        duePayments("0", x, row(0), new int[] {1, INSURED, 200}, new int[] {1, 0, 100}, new int[] {2, 0, 100});
+        duePayments("0", x, row(0), pays(1, INSURED, 200), pays(1, 0, 100), pays(2, 0, 100));
         // balances -200, 300, -100, 0, the insured 0
-        duePayments("1", x, row(1), new int[] {0, 1, 200}, new int[] {2, 1, 100});
+        duePayments("1", x, row(1), pays(0, 1, 200), pays(2, 1, 100));
         // balances 200, -100, -100
-        duePayments("0, 1", x, row(0, 1), new int[] {1, 0, 100}, new int[] {2, 0, 100});
+        duePayments("0, 1", x, row(0, 1), pays(1, 0, 100), pays(2, 0, 100));
         CoverRings apart = limits(600, 600, 600, 600, 600, 600);
         apart.clause(0, RATEABLE, 0);
         apart.clause(2, RATEABLE, 0);
         apart.loss(0, 600);
-        duePayments("two are owed to", apart, row(0, 2, 3, 1), new int[] {1, 3, 100}, new int[] {4, 3, 100}, new int[] {5, 3, 100});
+        duePayments("two are owed to", apart, row(0, 2, 3, 1), pays(1, 3, 100), pays(4, 3, 100), pays(5, 3, 100));
         due("k -2", x.recovery(0, 0, -2, 0), NONE);
         due("what 3", x.recovery(0, 0, 0, 3), NONE);
         due("what -1", x.recovery(0, 0, 0, -1), NONE);

@@ -30,14 +30,6 @@ final class Terms3Test extends Checks {
         end();
     }
 
-    /** LONES 400, 600, 200, 600; SHARES 200, 300, 100, 0: 2 is RATEABLE, 3 is EXCESS to 0. */
-    private static CoverRings claims() {
-        CoverRings x = lossOn(600, 400, 600, 200, 700);
-        x.clause(2, RATEABLE, 0);
-        x.clause(3, EXCESS, 1);
-        return x;
-    }
-
     private static void dueFirsts(String state, CoverRings x, long row, int... firsts) {
         int sum = 0;
         for (int p = 0; p < firsts.length; p++) {
@@ -45,21 +37,6 @@ final class Terms3Test extends Checks {
             sum += firsts[p];
         }
         due(state + ": FIRSTS", x.claimed(0, row, NONE), sum);
-    }
-
-    /** Each payment as {who, whom, how much}; behind the last there is none. */
-    private static void duePayments(String state, CoverRings x, long row, int[]... payments) {
-        due(state + ": how many", x.recovery(0, row, NONE, 0), payments.length);
-        for (int k = 0; k < payments.length; k++) {
-            for (int what = 0; what < 3; what++) {
-                due(state + ": " + k + ", " + what, x.recovery(0, row, k, what), payments[k][what]);
-            }
-        }
-        due(state + ": not so many", x.recovery(0, row, payments.length, 0), NONE);
-    }
-
-    private static int[] pays(int who, int whom, int much) {
-        return new int[] {who, whom, much};
     }
 
     private static void digits() {

@@ -1,10 +1,9 @@
 /** Promises 1 to 11: what there is. Each sentence at its bounds, and that what is refused changes nothing. */
 final class ToldEdgesTest extends Checks {
-    private static final int[] NO_POLICY_OF_THREE = {3, 7, 8, -1, -2, LEAST_INT, GREATEST_INT};
-    private static final int[] NO_ITEM = {8, -1, LEAST_INT, GREATEST_INT};
-
     public static void main(String[] args) {
         sentence("NONE = -1: There is none", ToldEdgesTest::none);
+        sentence("An object is used for at most 512 calls after it has been made", ToldEdgesTest::usedFor512Calls);
+        sentence("1: A new object, beside others", ToldEdgesTest::besideOthers);
         sentence("1: No POLICIES", ToldEdgesTest::noPolicies);
         sentence("1: no LOSSES", ToldEdgesTest::noLosses);
         sentence("2: A POLICY comes, PLAIN, TO none", ToldEdgesTest::aPolicyComes);
@@ -48,6 +47,35 @@ final class ToldEdgesTest extends Checks {
 
     private static void none() {
         due("NONE", CoverRings.NONE, -1);
+    }
+
+    /** The last call of all is answered like an early one, whatever came ahead of it. */
+    private static void usedFor512Calls() {
+        CoverRings early = full();
+        CoverRings late = full();
+        // 43 calls made it; RULE changes 232 times, and so is what it was
+        for (int call = 44; call <= 509; call++) {
+            if (call % 2 == 0 && call < 508) {
+                late.rule();
+            } else {
+                late.shapley(9, call % 8);
+            }
+        }
+        due("call 510", late.count(2), 0);
+        due("call 511", late.settled(9, TOTAL), early.settled(9, TOTAL));
+        due("call 512", late.shapley(9, 7), early.shapley(9, 7));
+    }
+
+    private static void besideOthers() {
+        CoverRings other = full();
+        CoverRings x = new CoverRings();
+        due("it has nothing of the other's", picture(x).equals(picture(new CoverRings())), true);
+        due("no POLICIES", x.count(0), 0);
+        x.policy(5, 5, 0, 0, 1);
+        x.rule();
+        x.value(true, 3, 77);
+        x.file(0, 1, 0);
+        due("the other has nothing of it", picture(other).equals(picture(full())), true);
     }
 
     private static void noPolicies() {

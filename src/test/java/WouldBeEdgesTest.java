@@ -1,8 +1,5 @@
 /** Promises 23 to 30: what would be. Each sentence at its bounds; what would be changes nothing of what is. */
 final class WouldBeEdgesTest extends Checks {
-    private static final int[] NO_LOSS_OF_TWO = {2, 9, 10, -1, -2, LEAST_INT, GREATEST_INT};
-    private static final int[] NO_POLICY_OF_THREE = {3, 7, 8, -1, -2, LEAST_INT, GREATEST_INT};
-
     public static void main(String[] args) {
         sentence("23: TOTAL of a LOSS, were a POLICY not there (its number staying empty)", WouldBeEdgesTest::without);
         sentence("23: all LOSSES SETTLED so", WouldBeEdgesTest::withoutAllLosses);
@@ -200,6 +197,10 @@ final class WouldBeEdgesTest extends Checks {
         CoverRings last = over(100, 9, 7);
         last.value(true, 7, 50);
         due("ITEM 7: 9 * 50 / 100", last.returned(0, 7), 4);
+        CoverRings least = limits(1);
+        least.value(true, 0, 1);
+        least.value(false, 0, 5);
+        due("LIMITS of 1: 5 * 0 / 1", least.returned(0, 0), 0);
     }
 
     private static void returnedOver() {
@@ -224,10 +225,10 @@ final class WouldBeEdgesTest extends Checks {
     }
 
     private static void returnedNone() {
-        for (int p : new int[] {3, 7, 8, -2, LEAST_INT, GREATEST_INT}) {
+        for (int p : NO_POLICY_NOR_NONE) {
             unchanging(Checks::some, "no POLICY " + p, NONE, x -> x.returned(p, 0));
         }
-        for (int item : new int[] {8, -1, LEAST_INT, GREATEST_INT}) {
+        for (int item : NO_ITEM) {
             unchanging(Checks::some, "no ITEM " + item, NONE, x -> x.returned(0, item));
             unchanging(Checks::some, "no ITEM " + item + ", OVER", NONE, x -> x.returned(NONE, item));
         }
