@@ -262,8 +262,10 @@ final class Terms1Test extends Checks {
 
     private static void valueAboveLimit() {
         due("VALUE 0", loneWith(1000, 0, 0, 500), 500);
-        due("VALUE one below LIMIT", loneWith(1000, 0, 999, 500), 500);
-        due("VALUE is LIMIT", loneWith(1000, 0, 1000, 500), 500);
+        due("VALUE one below LIMIT", loneWith(1000, 0, 999, 999), 999);
+        due("VALUE far below LIMIT: A is not made more", loneWith(1000, 0, 500, 400), 400);
+        due("the least VALUE above 0", loneWith(1000, 0, 1, 10), 10);
+        due("VALUE is LIMIT", loneWith(1000, 0, 1000, 999), 999);
         due("VALUE one above LIMIT: 500 * 1000 / 1001", loneWith(1000, 0, 1001, 500), 499);
         due("VALUE twice LIMIT", loneWith(1000, 0, 2000, 500), 250);
         due("the greatest: 1000000 * 1000000 / 9000000", loneWith(MILLION, 0, MOST, MILLION), 111_111);

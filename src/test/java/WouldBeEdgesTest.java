@@ -258,6 +258,9 @@ final class WouldBeEdgesTest extends Checks {
 
     private static void ringless() {
         due("no RING", excess(0b10, 0).ringless(0, false), 0);
+        due("no RING: all 8, each to the next", excess(2, 4, 8, 16, 32, 64, 128, 0).ringless(0, false), 0);
+        due("no RING: all 8, each to the one ahead", excess(0, 1, 2, 4, 8, 16, 32, 64).ringless(0, false), 0);
+        due("no RING: all 8, each to all behind it", excess(254, 252, 248, 240, 224, 192, 128, 0).ringless(0, false), 0);
         due("a pair", excess(0b10, 0b01).ringless(0, false), 1);
         due("a RING of all 8", excess(2, 4, 8, 16, 32, 64, 128, 1).ringless(0, false), 1);
         due("four pairs", excess(2, 1, 8, 4, 32, 16, 128, 64).ringless(0, false), 4);
