@@ -6,7 +6,9 @@ import java.nio.file.Files;
 import java.nio.file.Path;
 import java.util.Arrays;
 import java.util.HashSet;
+import java.util.LinkedHashMap;
 import java.util.List;
+import java.util.Map;
 import java.util.Set;
 import java.util.TreeSet;
 import java.util.regex.Matcher;
@@ -16,6 +18,10 @@ import java.util.regex.Pattern;
 final class FaceTest {
     private static final Path SOURCE = Path.of("src/main/java/CoverRings.java");
     private static final Path DOCUMENT = Path.of("../shared/DOC.md");
+    private static final Pattern HEAD =
+            Pattern.compile("(?: {4}| {8})(?:public |private |static )*(?!public )[\\w\\[\\]]+ (\\w+)\\([^)]*\\).*\\{");
+    private static final Pattern CALLED = Pattern.compile("\\b(\\w+)\\(");
+    private static final int MOST_CALLS = 8;
     private static int wrong;
 
     private static void fault(String text) {
@@ -28,6 +34,7 @@ final class FaceTest {
         nothingElseIsVisible();
         sourceKeepsToTheLanguage();
         methodsAreShort();
+        callsStayShallow();
         System.out.println(wrong == 0 ? "the face is as due" : wrong + " faults");
         if (wrong != 0) {
             System.exit(1);
@@ -101,10 +108,24 @@ final class FaceTest {
                 fault(m + " takes too many parameters");
             }
         }
+        for (Field f : c.getDeclaredFields()) {
+            if (!isOfTheLanguage(f.getType())) {
+                fault(f + " is of a type that the language has not");
+            }
+            if (Modifier.isStatic(f.getModifiers()) && !Modifier.isFinal(f.getModifiers())) {
+                fault(f + " is static and not final");
+            }
+        }
         long fields = Arrays.stream(c.getDeclaredFields()).filter(f -> !Modifier.isStatic(f.getModifiers())).count();
         if (fields > 20) {
             fault(c + " has " + fields + " fields");
         }
+    }
+
+    /** Numbers, rows of numbers, classes of our own: the class needs no other. */
+    private static boolean isOfTheLanguage(Class<?> type) {
+        boolean own = type.getNestHost() == CoverRings.class && !type.isArray();
+        return type.isPrimitive() || own || type.isArray() && type.getComponentType().isPrimitive();
     }
 
     private static void sourceKeepsToTheLanguage() throws IOException {
@@ -132,25 +153,63 @@ final class FaceTest {
         }
     }
 
-    private static void methodsAreShort() throws IOException {
+    /** The lines of each method, by its name; no two methods bear the same one, so a name tells who is called. */
+    private static Map<String, String> methods() throws IOException {
         List<String> lines = Files.readAllLines(SOURCE);
-        int met = 0;
+        Map<String, String> bodies = new LinkedHashMap<>();
         for (int i = 0; i < lines.size(); i++) {
             String line = lines.get(i);
-            if (line.matches("( {4}| {8})(public |private |static )*[\\w\\[\\]]+ \\w+\\(.*\\{")) {
-                met++;
-                int indent = line.length() - line.stripLeading().length();
+            Matcher head = HEAD.matcher(line);
+            if (head.matches()) {
+                String last = " ".repeat(line.length() - line.stripLeading().length()) + "}";
                 int end = i;
-                while (end < lines.size() - 1 && !lines.get(end).equals(" ".repeat(indent) + "}")) {
+                while (end < lines.size() - 1 && !lines.get(end).equals(last)) {
                     end++;
                 }
-                if (end - i > 60) {
-                    fault("line " + (i + 1) + " begins a method of " + (end - i) + " lines");
+                if (bodies.put(head.group(1), String.join("\n", lines.subList(i + 1, end))) != null) {
+                    fault("two methods bear the name " + head.group(1));
                 }
             }
         }
-        if (met < 31) {
-            fault("only " + met + " methods were found");
+        return bodies;
+    }
+
+    private static void methodsAreShort() throws IOException {
+        Map<String, String> bodies = methods();
+        for (Map.Entry<String, String> m : bodies.entrySet()) {
+            long length = m.getValue().lines().count();
+            if (length > 60) {
+                fault(m.getKey() + " has " + length + " lines");
+            }
         }
+        int declared = CoverRings.class.getDeclaredMethods().length;
+        for (Class<?> c : CoverRings.class.getDeclaredClasses()) {
+            declared += c.getDeclaredMethods().length;
+        }
+        if (bodies.size() != declared) {
+            fault(bodies.size() + " methods were found, there are " + declared);
+        }
+    }
+
+    private static void callsStayShallow() throws IOException {
+        Map<String, String> bodies = methods();
+        for (String name : bodies.keySet()) {
+            int depth = depth(name, bodies, MOST_CALLS + 1);
+            if (depth > MOST_CALLS) {
+                fault(name + " goes deeper than " + MOST_CALLS + " calls, or calls itself");
+            }
+        }
+    }
+
+    /** How many calls stand open at once, the first one with them; looks no deeper than it may. */
+    private static int depth(String name, Map<String, String> bodies, int may) {
+        int deepest = 0;
+        Matcher called = CALLED.matcher(bodies.get(name));
+        while (may > 1 && called.find()) {
+            if (bodies.containsKey(called.group(1))) {
+                deepest = Math.max(deepest, depth(called.group(1), bodies, may - 1));
+            }
+        }
+        return deepest + 1;
     }
 }
